@@ -342,10 +342,10 @@ public final class TokenReader {
         double realValue;
         // One more than a STRING may have, so that too many are seen.
         private final byte[] text = new byte[MOST_IN_STRING + 1];
-        private int length;
-        private final int[] rowNumbers = new int[MOST_IN_ROW];
-        private final double[] rowReals = new double[MOST_IN_ROW];
-        private boolean rowOfReals;
+        int length;
+        final int[] rowNumbers = new int[MOST_IN_ROW];
+        final double[] rowReals = new double[MOST_IN_ROW];
+        boolean rowOfReals;
         private int rowLength;
 
         void startAt(int start) {
@@ -388,11 +388,6 @@ public final class TokenReader {
             wholeValue = 0L;
             realValue = value;
             return REAL;
-        }
-
-        void startRow(boolean ofReals) {
-            rowOfReals = ofReals;
-            rowLength = 0;
         }
 
         void putInRow(int number, double real) {
@@ -565,8 +560,8 @@ public final class TokenReader {
 
         int readRound(Token token) {
             int open = 1;
-            int width = 1;
-            for (int i = token.place + 1; i < bytes.count; i += width) {
+            int i = token.place + 1;
+            while (i < bytes.count) {
                 int b = bytes.at(i);
                 if (b == '(') {
                     open++;
@@ -577,7 +572,8 @@ public final class TokenReader {
                 if (open == 0) {
                     return wholeString(token, i + 1);
                 }
-                width = Math.max(1, putOne(token, i, b));
+                // At least 1 in any case, so that the loop's end shows here.
+                i += Math.max(1, putOne(token, i, b));
             }
             return bytes.lacking(token);
         }
@@ -588,8 +584,12 @@ public final class TokenReader {
                 return 1 + putEscaped(token, i + 1);
             }
             int lineEnd = lineEndWidth(i);
-            token.put(lineEnd > 0 ? 10 : b);
-            return Math.max(1, lineEnd);
+            if (lineEnd > 0) {
+                token.put(10);
+                return lineEnd;
+            }
+            token.put(b);
+            return 1;
         }
 
         /** Puts what a backslash before i makes of it, and answers how many bytes from i on that took. */
@@ -646,17 +646,20 @@ public final class TokenReader {
             int high = NONE;
             for (int i = token.place + 1; i < bytes.count; i++) {
                 int b = bytes.at(i);
-                int digit = digitOf(b);
+                if (Bytes.isWhite(b)) {
+                    continue;
+                }
                 if (b == '>') {
                     putLastAlone(token, high);
                     return wholeString(token, i + 1);
                 }
-                if (digit >= 16 && !Bytes.isWhite(b)) {
+                int digit = digitOf(b);
+                if (digit >= 16) {
                     return token.wrongByte(BAD_BYTE, i);
                 }
-                if (digit < 16 && high == NONE) {
+                if (high == NONE) {
                     high = digit;
-                } else if (digit < 16) {
+                } else {
                     token.put(high * 16 + digit);
                     high = NONE;
                 }
@@ -675,17 +678,21 @@ public final class TokenReader {
             int digits = 0;
             for (int i = token.place + 2; i < bytes.count; i++) {
                 int b = bytes.at(i);
+                if (Bytes.isWhite(b)) {
+                    continue;
+                }
                 if (b == '~') {
                     return endBase85(token, i, group, digits);
                 }
-                if (b >= 33 && b <= 117) {
-                    group = group * 85L + b - 33L;
-                    digits++;
-                } else if (b == 'z' && digits == 0) {
+                if (b == 'z' && digits == 0) {
                     putHighest(token, 0L, 4);
-                } else if (!Bytes.isWhite(b)) {
+                    continue;
+                }
+                if (b < 33 || b > 117) {
                     return token.wrongByte(BAD_BYTE, i);
                 }
+                group = group * 85L + b - 33L;
+                digits++;
                 if (group >= TWO_TO_32) {
                     return token.wrongByte(BAD_BYTE, i);
                 }
@@ -851,7 +858,7 @@ public final class TokenReader {
             int width = widthOf(form);
             boolean ofFloats = (form & 127) == FLOATS;
             boolean ofReals = ofFloats || (form & 31) != 0;
-            token.startRow(ofReals);
+            token.rowOfReals = ofReals;
             for (int k = 0; k < count; k++) {
                 int number = signedAt(from + k * width, width, form >= 128);
                 if (ofFloats && !isFinite(number)) {

@@ -78,6 +78,8 @@ public final class StringTest {
         Tapes.reads("<~ 9\0j\tq\no\f^\r~>", "STRING(Man$20)@0 END");
         Tapes.reads("<~!!~> <~!!!~> <~!!!!~>", "STRING($00)@0 STRING($00$00)@7 STRING($00$00$00)@15 END");
         Tapes.reads("<~s7~> <~s8V~> <~s8W,~>", "STRING($ff)@0 STRING($ff$ff)@7 STRING($ff$ff$ff)@15 END");
+        // A filler of less, or of more, would carry into the bytes that are kept.
+        Tapes.reads("<~5!\"D~> <~5!\"G~>", "STRING(>:$86)@0 STRING(>:$86)@9 END");
         // These begin or end other TOKENS, but are digits here.
         Tapes.reads("<~>>>>>~>", "STRING([N$05$19)@0 END");
         Tapes.reads("<~<<<<<~>", "STRING(U$02$04$bf)@0 END");

@@ -45,6 +45,7 @@ public final class WordTest {
         Tapes.reads("0 7 +7 -7 -0 007", "NUMBER(0)@0 NUMBER(7)@2 NUMBER(7)@4 NUMBER(-7)@7 NUMBER(0)@10 NUMBER(7)@13 END");
         Tapes.reads("2147483647 +2147483647 -2147483648",
                 "NUMBER(2147483647)@0 NUMBER(2147483647)@11 NUMBER(-2147483648)@23 END");
+        Tapes.reads("1089 98 -9", "NUMBER(1089)@0 NUMBER(98)@5 NUMBER(-9)@8 END");
         Tapes.reads("2147483648 -2147483649", "REAL(2.147483648E9)@0 REAL(-2.147483649E9)@11 END");
         Tapes.reads("4294967296 4294967301", "REAL(4.294967296E9)@0 REAL(4.294967301E9)@11 END");
         Tapes.reads("-00000000000000000000012", "NUMBER(-12)@0 END");
@@ -64,6 +65,7 @@ public final class WordTest {
         Tapes.reads("16#100000000 16#0000000000000001", "WRONG5@0 NUMBER(1)@13 END");
         Tapes.reads("10#4294967295 10#4294967296 10#99999999999999999999999999", "NUMBER(-1)@0 WRONG5@14 WRONG5@28 END");
         Tapes.reads("16#ffffffffffffffffffg", "NAME(16#ffffffffffffffffffg)@0 END");
+        Tapes.reads("9#18 19#1i 1a#1 a#1 b#0", "NUMBER(17)@0 NUMBER(37)@5 NAME(1a#1)@11 NAME(a#1)@16 NAME(b#0)@20 END");
         Tapes.reads("36#aAzZ09", "NUMBER(" + Integer.parseInt("aazz09", 36) + ")@0 END");
         Tapes.reads("36#@ 36#[", "NAME(36#@)@0 NAME(36#)@5 [@8 END");
         Tapes.reads("36#` 11#: 36#{", "NAME(36#`)@0 NAME(11#:)@5 NAME(36#)@10 {@13 WRONG6@13 END");
@@ -79,6 +81,7 @@ public final class WordTest {
                 "NAME(.)@0 NAME(+.)@2 NAME(-.)@5 NAME(e)@8 NAME(.e1)@10 NAME(e5)@14 NAME(1e)@17 NAME(1e+)@20 NAME(1e-)@24 "
                 + "NAME(1e1234)@28 NAME(1e1.5)@35 NAME(1.2.3)@41 NAME(1..2)@47 END");
         Tapes.reads("1e++1 1e+-1 1f3 1.5+ 1-2 1e3a 1.a", "NAME(1e++1)@0 NAME(1e+-1)@6 NAME(1f3)@12 NAME(1.5+)@16 NAME(1-2)@21 NAME(1e3a)@25 NAME(1.a)@30 END");
+        Tapes.reads("9.9 1.09e1", "REAL(9.9)@0 REAL(10.9)@4 END");
         Tapes.reads("123.456e-5 0.1 1e23 0e999 1e-999",
                 "REAL(" + divided(123456.0, 8) + ")@0 REAL(" + 1.0 / 10.0 + ")@11 REAL(" + multiplied(1.0, 23) + ")@15 REAL(0.0)@20 REAL(0.0)@26 END");
         Tapes.reads("9999999999999999999.25", "REAL(" + divided(digits("999999999999999999925"), 2) + ")@0 END");
@@ -117,7 +120,7 @@ public final class WordTest {
     }
 
     private static void names() {
-        Tapes.reads("abc $@!~ |\\^", "NAME(abc)@0 NAME($@!~)@4 NAME(|\\^)@9 END");
+        Tapes.reads("abc $@!~ |\\^ \u007f", "NAME(abc)@0 NAME($@!~)@4 NAME(|\\^)@9 NAME($7f)@13 END");
     }
 
     private static void slashed() {
