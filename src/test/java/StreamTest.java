@@ -16,6 +16,7 @@ public final class StreamTest {
 
     public static void main(String[] args) {
         Random random = new Random(7);
+        Checks.about("read as bytes come");
         for (int run = 0; run < 3000; run++) {
             String bytes = mixed(random, MIXTURES[run % MIXTURES.length], 1 + random.nextInt(60));
             Checks.same("as they come " + run, Tapes.atOnce(bytes), Tapes.byteByByte(bytes));
@@ -24,6 +25,7 @@ public final class StreamTest {
             String bytes = anyBytes(random, 1 + random.nextInt(200));
             Checks.same("any bytes " + run, Tapes.atOnce(bytes), Tapes.byteByByte(bytes));
         }
+        Checks.about("At the END, behind all TOKENS, the answer is 20.");
         for (int first = 0; first < 65536; first++) {
             anyTwo(Tapes.bytes(first >> 8, first));
         }
@@ -49,16 +51,12 @@ public final class StreamTest {
     /** Whatever two bytes come, reading ends with END, and goes forth. */
     private static void anyTwo(String bytes) {
         String told = Tapes.atOnce(bytes);
-        if (!told.endsWith("END") || told.contains("MORE")) {
-            Checks.same("any two", "an end", told);
-        }
+        Checks.same("any two, " + Tapes.shown(bytes), true, told.endsWith("END") && !told.contains("MORE"));
         TokenReader reader = Tapes.fed(bytes);
         reader.end();
         for (int i = 0; i < 4; i++) {
             reader.next();
         }
-        if (reader.next() != 20) {
-            Checks.same("at most four answers before 20", 20, reader.next());
-        }
+        Checks.same("at most four answers before 20, " + Tapes.shown(bytes), 20, reader.next());
     }
 }

@@ -1,156 +1,428 @@
-/** The Terms of WHITE, WORD, NUMBER, REAL, NAME, LITERAL and INSTANT. */
+import java.math.BigInteger;
+import java.util.Random;
+
+/** The Terms of NUMBER, REAL, NAME, LITERAL and INSTANT. */
 public final class WordTest {
+    private static final String DIGITS = "0123456789abcdefghijklmnopqrstuvwxyz";
+
     public static void main(String[] args) {
-        white();
-        endsOfWords();
-        integers();
-        numbersWithBase();
-        reals();
+        digitsWithSign();
+        leastAndGreatest();
+        integersHaveBaseTen();
+        basesTwoToThirtySix();
+        otherBases();
+        oneOrTwoDigitsOfBase();
+        digitsOfEachBase();
+        oneDigitOrMore();
+        aboveGreatest();
+        tooGreatWithBase();
+        realForms();
+        oneDigitOfBoth();
+        exponents();
+        butNoNumber();
+        digitsOfReals();
+        stepsOfReals();
+        minusOfReals();
+        anyReals();
         infiniteReals();
         names();
-        slashed();
-        longWords();
+        literals();
+        instants();
         Checks.done();
     }
 
-    private static void white() {
-        Tapes.reads("", "END");
-        Tapes.reads("\0\t\n\f\r ", "END");
-        Tapes.reads("% all ( of < it", "END");
-        Tapes.reads("%a\nb%c\fd%e\re%f\0 \tg", "NAME(b)@3 NAME(d)@7 NAME(e)@11 END");
-        Tapes.reads("%%a\n%\r%\f1", "NUMBER(1)@8 END");
-        Tapes.reads("a\0b\tc\nd\fe\rf g",
-                "NAME(a)@0 NAME(b)@2 NAME(c)@4 NAME(d)@6 NAME(e)@8 NAME(f)@10 NAME(g)@12 END");
-        Tapes.readsOpen(" % a", "MORE");
-        Tapes.readsOpen("", "MORE");
+    private static void number(String word, long value) {
+        Tapes.reads(word, "NUMBER(" + value + ")@0 END");
     }
 
-    private static void endsOfWords() {
-        Tapes.reads("a(b)c", "NAME(a)@0 STRING(b)@1 NAME(c)@4 END");
-        Tapes.reads("a<41>b", "NAME(a)@0 STRING(A)@1 NAME(b)@5 END");
-        Tapes.reads("a[b]c", "NAME(a)@0 [@1 NAME(b)@2 ]@3 NAME(c)@4 END");
-        Tapes.reads("a{b}c", "NAME(a)@0 {@1 NAME(b)@2 }@3 NAME(c)@4 END");
-        Tapes.reads("a/b//c%d", "NAME(a)@0 LITERAL(b)@1 INSTANT(c)@3 END");
-        Tapes.reads("a>>b", "NAME(a)@0 >>@1 NAME(b)@3 END");
-        Tapes.reads("a>b)c", "NAME(a)@0 WRONG3@1 NAME(b)@2 WRONG3@3 NAME(c)@4 END");
-        Tapes.reads("5\u0088\u0005", "NUMBER(5)@0 NUMBER(5)@1 END");
-        Tapes.reads("a\u009f", "NAME(a)@0 WRONG4@1 END");
-        Tapes.reads("a\u0080b", "NAME(a)@0 WRONG4@1 NAME(b)@2 END");
-        Tapes.reads("\u0001\b\u000b\u000e\u001f!\u007f\u00a0\u00ff", "NAME($01$08$0b$0e$1f!$7f$a0$ff)@0 END");
-        Tapes.readsOpen("abc", "MORE");
-        Tapes.readsOpen("abc ", "NAME(abc)@0 MORE");
+    private static void real(String word, double value) {
+        Tapes.reads(word, "REAL(" + value + ")@0 END");
     }
 
-    private static void integers() {
-        Tapes.reads("0 7 +7 -7 -0 007", "NUMBER(0)@0 NUMBER(7)@2 NUMBER(7)@4 NUMBER(-7)@7 NUMBER(0)@10 NUMBER(7)@13 END");
-        Tapes.reads("2147483647 +2147483647 -2147483648",
-                "NUMBER(2147483647)@0 NUMBER(2147483647)@11 NUMBER(-2147483648)@23 END");
-        Tapes.reads("1089 98 -9", "NUMBER(1089)@0 NUMBER(98)@5 NUMBER(-9)@8 END");
-        Tapes.reads("2147483648 -2147483649", "REAL(2.147483648E9)@0 REAL(-2.147483649E9)@11 END");
-        Tapes.reads("4294967296 4294967301", "REAL(4.294967296E9)@0 REAL(4.294967301E9)@11 END");
-        Tapes.reads("-00000000000000000000012", "NUMBER(-12)@0 END");
-        Tapes.reads("18446744073709551617", "REAL(1.8446744073709552E19)@0 END");
-        Tapes.reads("+ - ++1 1+ 1- --1 +-1 1a",
-                "NAME(+)@0 NAME(-)@2 NAME(++1)@4 NAME(1+)@8 NAME(1-)@11 NAME(--1)@14 NAME(+-1)@18 NAME(1a)@22 END");
+    private static void name(String word) {
+        Tapes.reads(word, "NAME(" + Tapes.shown(word) + ")@0 END");
     }
 
-    private static void numbersWithBase() {
-        Tapes.reads("2#101 8#17 10#99 16#fF 36#zZ", "NUMBER(5)@0 NUMBER(15)@6 NUMBER(99)@11 NUMBER(255)@17 NUMBER(1295)@23 END");
-        Tapes.reads("02#11 1#0 01#0 0#0 00#0 37#1 99#1 036#1",
-                "NUMBER(3)@0 NAME(1#0)@6 NAME(01#0)@10 NAME(0#0)@15 NAME(00#0)@19 NAME(37#1)@24 NAME(99#1)@29 NAME(036#1)@34 END");
-        Tapes.reads("2#2 8#8 10#a 16#g 35#z 35#y", "NAME(2#2)@0 NAME(8#8)@4 NAME(10#a)@8 NAME(16#g)@13 NAME(35#z)@18 NUMBER(34)@23 END");
-        Tapes.reads("16# # #1 16#-1 +16#1 -8#1 16#1.0 16#1#1 16a1",
-                "NAME(16#)@0 NAME(#)@4 NAME(#1)@6 NAME(16#-1)@9 NAME(+16#1)@15 NAME(-8#1)@21 NAME(16#1.0)@26 NAME(16#1#1)@33 NAME(16a1)@40 END");
-        Tapes.reads("16#7fffffff 16#80000000 16#ffffffff", "NUMBER(2147483647)@0 NUMBER(-2147483648)@12 NUMBER(-1)@24 END");
-        Tapes.reads("16#100000000 16#0000000000000001", "WRONG5@0 NUMBER(1)@13 END");
-        Tapes.reads("10#4294967295 10#4294967296 10#99999999999999999999999999", "NUMBER(-1)@0 WRONG5@14 WRONG5@28 END");
-        Tapes.reads("16#ffffffffffffffffffg", "NAME(16#ffffffffffffffffffg)@0 END");
-        Tapes.reads("9#18 19#1i 1a#1 a#1 b#0", "NUMBER(17)@0 NUMBER(37)@5 NAME(1a#1)@11 NAME(a#1)@16 NAME(b#0)@20 END");
-        Tapes.reads("36#aAzZ09", "NUMBER(" + Integer.parseInt("aazz09", 36) + ")@0 END");
-        Tapes.reads("36#@ 36#[", "NAME(36#@)@0 NAME(36#)@5 [@8 END");
-        Tapes.reads("36#` 11#: 36#{", "NAME(36#`)@0 NAME(11#:)@5 NAME(36#)@10 {@13 WRONG6@13 END");
+    private static void digitsWithSign() {
+        Checks.about("1 NUMBER: a WORD of perhaps + or -, and digits: its value");
+        for (int value = 0; value < 1100; value++) {
+            number("" + value, value);
+            number("+" + value, value);
+            number("-" + value, -value);
+            number("00" + value, value);
+            number("-0" + value, -value);
+        }
+        String[] none = {"+", "-", "++1", "--1", "+-1", "-+1", "1+", "1-", "1-1", "1a", "a1", "1_000", "1,0"};
+        for (String word : none) {
+            name(word);
+        }
+        for (int b = 33; b < 127; b++) {
+            char c = (char) b;
+            boolean digit = c >= '0' && c <= '9';
+            boolean sign = c == '+' || c == '-';
+            Checks.same("first byte " + c, digit || sign, Tapes.first(c + "7").startsWith("NUMBER("));
+            Checks.same("second byte " + c, digit, Tapes.first("7" + c + "7").equals("NUMBER(7" + c + "7)@0"));
+            Checks.same("second behind a sign " + c, digit, Tapes.first("-" + c).startsWith("NUMBER("));
+        }
     }
 
-    private static void reals() {
-        Tapes.reads("1.5 .5 5. -.5 +5. 0.0 -0.0 00.50",
-                "REAL(1.5)@0 REAL(0.5)@4 REAL(5.0)@7 REAL(-0.5)@10 REAL(5.0)@14 REAL(0.0)@18 REAL(0.0)@22 REAL(0.5)@27 END");
-        Tapes.reads("1e3 1E3 1e+3 1e-3 1.5e1 .5e1 5.e1 -1e0 1e000 1e-308",
-                "REAL(1000.0)@0 REAL(1000.0)@4 REAL(1000.0)@8 REAL(0.001)@13 REAL(15.0)@18 REAL(5.0)@24 REAL(50.0)@29 "
-                + "REAL(-1.0)@34 REAL(1.0)@39 REAL(" + divided(1.0, 308) + ")@45 END");
-        Tapes.reads(". +. -. e .e1 e5 1e 1e+ 1e- 1e1234 1e1.5 1.2.3 1..2",
-                "NAME(.)@0 NAME(+.)@2 NAME(-.)@5 NAME(e)@8 NAME(.e1)@10 NAME(e5)@14 NAME(1e)@17 NAME(1e+)@20 NAME(1e-)@24 "
-                + "NAME(1e1234)@28 NAME(1e1.5)@35 NAME(1.2.3)@41 NAME(1..2)@47 END");
-        Tapes.reads("1e++1 1e+-1 1f3 1.5+ 1-2 1e3a 1.a", "NAME(1e++1)@0 NAME(1e+-1)@6 NAME(1f3)@12 NAME(1.5+)@16 NAME(1-2)@21 NAME(1e3a)@25 NAME(1.a)@30 END");
-        Tapes.reads("9.9 1.09e1", "REAL(9.9)@0 REAL(10.9)@4 END");
-        Tapes.reads("123.456e-5 0.1 1e23 0e999 1e-999",
-                "REAL(" + divided(123456.0, 8) + ")@0 REAL(" + 1.0 / 10.0 + ")@11 REAL(" + multiplied(1.0, 23) + ")@15 REAL(0.0)@20 REAL(0.0)@26 END");
-        Tapes.reads("9999999999999999999.25", "REAL(" + divided(digits("999999999999999999925"), 2) + ")@0 END");
-        // A point and a small exponent must meet in one count of steps, not in two.
-        Tapes.reads("0.3e1 1.17e2", "REAL(3.0)@0 REAL(117.0)@6 END");
+    private static void leastAndGreatest() {
+        Checks.about("if that is -2147483648 .. 2147483647");
+        number("2147483646", 2147483646L);
+        number("2147483647", 2147483647L);
+        number("+2147483647", 2147483647L);
+        number("-2147483647", -2147483647L);
+        number("-2147483648", -2147483648L);
+        number("-0000000000000000000002147483648", -2147483648L);
+        number("0".repeat(90) + "2147483647", 2147483647L);
+        real("2147483648", 2147483648.0);
+        real("+2147483648", 2147483648.0);
+        real("-2147483649", -2147483649.0);
+        real("0".repeat(90) + "2147483648", 2147483648.0);
+        // These come back into the bounds where 32 or 64 bits are counted round.
+        real("4294967295", 4294967295.0);
+        real("4294967296", 4294967296.0);
+        real("4294967303", 4294967303.0);
+        real("-4294967303", -4294967303.0);
+        real("9223372036854775808", byDigits("9223372036854775808"));
+        real("18446744073709551616", byDigits("18446744073709551616"));
+        real("18446744073709551623", byDigits("18446744073709551623"));
+        real("-18446744073709551623", 0.0 - byDigits("18446744073709551623"));
     }
 
-    private static double multiplied(double value, int times) {
-        double v = value;
-        for (int i = 0; i < times; i++) {
-            v = v * 10.0;
+    private static int baseBehind(String words) {
+        TokenReader reader = Tapes.fed(words);
+        while (reader.next() != 0) {
+            Checks.same("is read", true, reader.place() >= 0);
+        }
+        return reader.base();
+    }
+
+    private static void integersHaveBaseTen() {
+        Checks.about("with BASE 10");
+        Checks.same("behind another", 10, baseBehind("16#f 7 "));
+        Checks.same("behind 2", 10, baseBehind("2#1 -2147483648 "));
+        Checks.same("10 itself", 10, baseBehind("36#z 10#7 "));
+        Checks.same("one above is a REAL", 16, baseBehind("16#f 2147483648 "));
+        Checks.same("one below is a REAL", 16, baseBehind("16#f -2147483649 "));
+    }
+
+    private static void basesTwoToThirtySix() {
+        Checks.about("(the BASE, 2 .. 36)");
+        for (int base = 2; base <= 36; base++) {
+            number(base + "#10", base);
+            Checks.same("base", base, baseBehind(base + "#1 "));
+            Checks.same("base behind another", base, baseBehind("7#1 " + base + "#1 "));
+        }
+    }
+
+    private static void otherBases() {
+        Checks.about("BASE, 2 .. 36");
+        for (int base = 0; base <= 99; base++) {
+            if (base < 2 || base > 36) {
+                name(base + "#0");
+                name(base + "#1");
+                Checks.same("base stays", 7, baseBehind("7#1 " + base + "#0 "));
+            }
+        }
+    }
+
+    private static void oneOrTwoDigitsOfBase() {
+        Checks.about("Or a WORD of one or two digits");
+        for (int base = 2; base <= 9; base++) {
+            number("0" + base + "#11", base + 1);
+            Checks.same("base of 0" + base, base, baseBehind("0" + base + "#1 "));
+            name("00" + base + "#1");
+        }
+        String[] none = {"#1", "##1", "00#0", "01#0", "010#1", "016#f", "100#1", "160#1", "256#1", "266#1", "4294967298#1",
+            "+8#1", "-8#1", "+16#1", "1a#1", "a#1", "f#1", "g1#1", "1.#1", "8.0#1", ".8#1", "0#", "37#"};
+        for (String word : none) {
+            name(word);
+        }
+    }
+
+    private static void digitsOfEachBase() {
+        Checks.about("# and one digit or more of that BASE (letters of both sizes from 10 on)");
+        for (int base = 2; base <= 36; base++) {
+            for (int digit = 0; digit < 36; digit++) {
+                String low = base + "#" + DIGITS.charAt(digit);
+                String high = base + "#" + DIGITS.toUpperCase().charAt(digit);
+                if (digit < base) {
+                    number(low, digit);
+                    number(high, digit);
+                    number(base + "#1" + DIGITS.charAt(digit), base + digit);
+                } else {
+                    name(low);
+                    name(high);
+                    name(base + "#1" + DIGITS.charAt(digit) + "0");
+                }
+            }
+        }
+        for (int b = 33; b < 256; b++) {
+            char c = (char) b;
+            int digit = DIGITS.indexOf(c < 128 ? Character.toLowerCase(c) : c);
+            String others = Tapes.isPlain(b) ? "NAME(36#1" + Tapes.shown("" + c) + ")@0" : "NUMBER(1)@0";
+            String due = digit >= 0 ? "NUMBER(" + (36 + digit) + ")@0" : others;
+            Checks.same("digit " + b, due, Tapes.first("36#1" + c));
+        }
+        number("36#aAzZ09", Long.parseLong("aazz09", 36));
+    }
+
+    private static void oneDigitOrMore() {
+        Checks.about("one digit or more of that BASE");
+        String[] none = {"2#", "16#", "36#", "8#-1", "8#+1", "16#1.0", "16#.1", "16#1#1", "16##1", "2#1e1", "16#-"};
+        for (String word : none) {
+            name(word);
+        }
+        number("16#0", 0L);
+        number("16#" + "0".repeat(97), 0L);
+        number("16#" + "0".repeat(96) + "7", 7L);
+        number("02#" + "0".repeat(96) + "1", 1L);
+        number("16#1e1", 481L);
+        // A long row of digits is no less a NAME for one byte that is none.
+        name("16#" + "f".repeat(96) + "g");
+    }
+
+    private static String inBase(int base, String value) {
+        return base + "#" + new BigInteger(value).toString(base);
+    }
+
+    private static void aboveGreatest() {
+        Checks.about("the value, above 2147483647 less 4294967296");
+        for (int base = 2; base <= 36; base++) {
+            number(inBase(base, "2147483646"), 2147483646L);
+            number(inBase(base, "2147483647"), 2147483647L);
+            number(inBase(base, "2147483648"), -2147483648L);
+            number(inBase(base, "2147483649"), -2147483647L);
+            number(inBase(base, "4294967294"), -2L);
+            number(inBase(base, "4294967295"), -1L);
+            number(base + "#000" + new BigInteger("4294967295").toString(base), -1L);
+        }
+        number("16#FFFFffff", -1L);
+        number("16#80000000", -2147483648L);
+    }
+
+    private static void tooGreatWithBase() {
+        Checks.about("from 4294967296 on it is WRONG (5)");
+        String[] values = {"4294967296", "4294967297", "4294967303", "8589934592", "9223372036854775807",
+            "9223372036854775808", "18446744073709551615", "18446744073709551616", "18446744073709551623",
+            "340282366920938463463374607431768211456"};
+        for (int base = 2; base <= 36; base++) {
+            for (String value : values) {
+                String word = inBase(base, value);
+                boolean fits = word.length() <= 100;
+                Tapes.reads("[" + word + " 7", "[@0 WRONG" + (fits ? 5 : 1) + "@1 NUMBER(7)@" + (word.length() + 2) + " END");
+            }
+        }
+        Tapes.reads("36#" + "z".repeat(97), "WRONG5@0 END");
+        Tapes.reads("2#1" + "0".repeat(96), "WRONG5@0 END");
+        Checks.same("base stays", 7, baseBehind("7#1 16#100000000 "));
+    }
+
+    private static void realForms() {
+        Checks.about("2 REAL: a WORD of perhaps + or -, digits, perhaps a point and digits");
+        real("1.5", 1.5);
+        real("+1.5", 1.5);
+        real("-1.5", -1.5);
+        real("5.", 5.0);
+        real(".5", 0.5);
+        real("-.5", -0.5);
+        real("+5.", 5.0);
+        real("00.50", 0.5);
+        real("0.0", 0.0);
+        String[] none = {"1.2.3", "1..2", "..1", "1.a", "1.+5", "1.5+", "--1.5", "+-1.5", "1,5", "1.5f", "a1.5", "1.5a", "0x1.5"};
+        for (String word : none) {
+            name(word);
+        }
+    }
+
+    private static void oneDigitOfBoth() {
+        Checks.about("(one digit at least of both)");
+        String[] none = {".", "+.", "-.", ".e1", "-.e1", ".E+10", "e1", "+e1", "E5", "e", "+", "-"};
+        for (String word : none) {
+            name(word);
+        }
+        real("0.", 0.0);
+        real(".0", 0.0);
+        real("-.0e1", 0.0);
+        real("7.e1", 70.0);
+        real(".7e1", 0.7e1);
+    }
+
+    private static void exponents() {
+        Checks.about("perhaps E or e, perhaps + or -, and one to three digits");
+        String[] ahead = {"3", "3.", "3.0"};
+        for (String digits : ahead) {
+            for (String letter : new String[] {"e", "E"}) {
+                real(digits + letter + "2", 300.0);
+                real(digits + letter + "+2", 300.0);
+                real(digits + letter + "02", 300.0);
+                real(digits + letter + "002", 300.0);
+                real(digits + letter + "+002", 300.0);
+                real(digits + letter + "-1", 3.0 / 10.0);
+                real(digits + letter + "-01", 3.0 / 10.0);
+                real(digits + letter + "-001", 3.0 / 10.0);
+                real(digits + letter + "0", 3.0);
+                real(digits + letter + "-000", 3.0);
+                String[] none = {"", "+", "-", "0002", "+0000", "-0002", "1234", "++1", "+-1", "2.0", "2e2", ".2", "a", "1a", "2+", "2-2"};
+                for (String exponent : none) {
+                    name(digits + letter + exponent);
+                }
+            }
+            for (int b = 33; b < 127; b++) {
+                boolean letter = b == 'e' || b == 'E';
+                if (!(b >= '0' && b <= '9' || b == '.' || b == '#')) {
+                    Checks.same("letter " + b, letter, Tapes.first(digits + (char) b + "2").equals("REAL(300.0)@0"));
+                }
+            }
+        }
+    }
+
+    private static void butNoNumber() {
+        Checks.about("but no NUMBER");
+        number("1", 1L);
+        number("-2147483648", -2147483648L);
+        real("2147483648", 2147483648.0);
+        real("1e0", 1.0);
+        real("1.", 1.0);
+        real("-2147483649", -2147483649.0);
+        real("0e0", 0.0);
+    }
+
+    private static double byDigits(String digits) {
+        double v = 0.0;
+        for (int i = 0; i < digits.length(); i++) {
+            v = v * 10.0 + (digits.charAt(i) - '0');
         }
         return v;
     }
 
-    private static double divided(double value, int times) {
-        double v = value;
+    private static double stepped(double start, int times) {
+        double v = start;
         for (int i = 0; i < times; i++) {
+            v = v * 10.0;
+        }
+        for (int i = times; i < 0; i++) {
             v = v / 10.0;
         }
         return v;
     }
 
-    private static double digits(String text) {
-        double v = 0.0;
-        for (char c : text.toCharArray()) {
-            v = v * 10.0 + (c - '0');
+    private static void digitsOfReals() {
+        Checks.about("Its value: v = 0.0; by each digit (of both) v = v * 10.0 + digit");
+        real("9007199254740993", byDigits("9007199254740993"));
+        real("99999999999999999999999", byDigits("99999999999999999999999"));
+        real("1" + "0".repeat(99), byDigits("1" + "0".repeat(99)));
+        real("9".repeat(100), byDigits("9".repeat(100)));
+        real("9999999999999999999.25", byDigits("999999999999999999925") / 10.0 / 10.0);
+        real("12.34", byDigits("1234") / 10.0 / 10.0);
+        // The digits behind the point are no sum of their own.
+        real("0.123456789", stepped(123456789.0, -9));
+        real("9.9", 99.0 / 10.0);
+    }
+
+    private static void stepsOfReals() {
+        Checks.about("then, as many times as the exponent less the digits behind the point is, v = v * 10.0, or, below 0, v = v / 10.0");
+        for (int exponent = -999; exponent <= 308; exponent++) {
+            real("1e" + exponent, stepped(1.0, exponent));
+            real("1.7e" + exponent, stepped(17.0, exponent - 1));
         }
-        return v;
+        real("1.7e1", 17.0);
+        real("1.7e2", 170.0);
+        real("1.7e0", 17.0 / 10.0);
+        real("0.3e1", 3.0);
+        real("1.17e2", 117.0);
+        real("123.456e-5", stepped(123456.0, -8));
+        real("1e23", stepped(1.0, 23));
+        real("1.000e3", 1000.0);
+        real("1e-999", 0.0);
+        real("0e999", 0.0);
+        real("." + "0".repeat(94) + "1e95", 1.0);
+    }
+
+    private static void minusOfReals() {
+        Checks.about("with - it is 0.0 - v");
+        real("-1.5", -1.5);
+        real("-2147483649", -2147483649.0);
+        real("-1e-5", 0.0 - stepped(1.0, -5));
+        String[] zeros = {"-0.0", "-0e0", "-.0", "-0.", "-1e-999", "+0.0", "0.0"};
+        for (String zero : zeros) {
+            TokenReader reader = Tapes.fed(zero + " ");
+            Checks.same("a REAL " + zero, 2, reader.next());
+            Checks.same("0.0 - 0.0 has no sign: " + zero, 0L, Double.doubleToRawLongBits(reader.real()));
+        }
+    }
+
+    private static void anyReals() {
+        Checks.about("Its value: v = 0.0");
+        Random random = new Random(11);
+        for (int run = 0; run < 2000; run++) {
+            String whole = "" + random.nextInt(1000000);
+            String part = "" + random.nextInt(100000);
+            int exponent = random.nextInt(500) - 250;
+            double v = stepped(byDigits(whole + part), exponent - part.length());
+            boolean minus = random.nextBoolean();
+            real((minus ? "-" : "") + whole + "." + part + "e" + exponent, minus ? 0.0 - v : v);
+        }
     }
 
     private static void infiniteReals() {
-        Tapes.reads("1e308 1e309 -1e309 1e999", "REAL(" + multiplied(1.0, 308) + ")@0 WRONG5@6 WRONG5@12 WRONG5@19 END");
-        Tapes.reads("1.7e308 1.8e308 -1.8e308", "REAL(" + multiplied(17.0, 307) + ")@0 WRONG5@8 WRONG5@16 END");
-        Tapes.reads("1" + "0".repeat(99), "REAL(" + multiplied(1.0, 99) + ")@0 END");
+        Checks.about("Infinite ones are WRONG (5).");
+        real("1e308", stepped(1.0, 308));
+        real("1.7e308", stepped(17.0, 307));
+        real("179e306", stepped(179.0, 306));
+        real("1797693134862316e293", stepped(1797693134862316.0, 293));
+        real("-1797693134862316e293", 0.0 - stepped(1797693134862316.0, 293));
+        Checks.same("the last finite one", true, stepped(1797693134862316.0, 293) > 1.797693134862314E308);
+        String[] infinite = {"180e306", "1797693134862317e293", "-1797693134862317e293", "1e309", "+1e309", "-1e309",
+            "1.8e308", "-1.8e308", "1e999", "-1e999", "0.1e310", "10e308", "9".repeat(95) + "e214"};
+        for (String word : infinite) {
+            Tapes.reads("[" + word + " 7", "[@0 WRONG5@1 NUMBER(7)@" + (word.length() + 2) + " END");
+            Tapes.readsOpen(word, "MORE");
+        }
     }
 
     private static void names() {
+        Checks.about("3 NAME: any other WORD.");
         Tapes.reads("abc $@!~ |\\^ \u007f", "NAME(abc)@0 NAME($@!~)@4 NAME(|\\^)@9 NAME($7f)@13 END");
+        for (int b = 0; b < 256; b++) {
+            String told = Tapes.first(Tapes.bytes(b));
+            if (b >= '0' && b <= '9') {
+                Checks.same("one byte " + b, "NUMBER(" + (b - '0') + ")@0", told);
+            } else if (Tapes.isPlain(b)) {
+                Checks.same("one byte " + b, "NAME(" + Tapes.shown(Tapes.bytes(b)) + ")@0", told);
+            } else {
+                Checks.same("no NAME " + b, false, told.startsWith("NAME("));
+            }
+        }
     }
 
-    private static void slashed() {
-        Tapes.reads("/ab //cd", "LITERAL(ab)@0 INSTANT(cd)@4 END");
-        Tapes.reads("/ // /", "LITERAL()@0 INSTANT()@2 LITERAL()@5 END");
-        Tapes.reads("///a ////", "INSTANT()@0 LITERAL(a)@2 INSTANT()@5 INSTANT()@7 END");
-        Tapes.reads("/1 /-1.5 //16#f", "LITERAL(1)@0 LITERAL(-1.5)@3 INSTANT(16#f)@9 END");
-        Tapes.reads("/(a)//(b)", "LITERAL()@0 STRING(a)@1 INSTANT()@4 STRING(b)@6 END");
-        Tapes.reads("/%a\n//%b", "LITERAL()@0 INSTANT()@4 END");
-        Tapes.reads("/\u0088\u0001//\u0088\u0002", "LITERAL()@0 NUMBER(1)@1 INSTANT()@3 NUMBER(2)@5 END");
-        Tapes.reads("/[//]", "LITERAL()@0 [@1 INSTANT()@2 ]@4 END");
-        Tapes.readsOpen("/", "MORE");
-        Tapes.readsOpen("//", "MORE");
-        Tapes.readsOpen("/a", "MORE");
-        Tapes.readsOpen("///", "INSTANT()@0 MORE");
+    private static void literals() {
+        Checks.about("4 LITERAL: / and a WORD, or none.");
+        Tapes.reads("/ab", "LITERAL(ab)@0 END");
+        Tapes.reads("/ab /c /", "LITERAL(ab)@0 LITERAL(c)@4 LITERAL()@7 END");
+        Tapes.reads("/ ab", "LITERAL()@0 NAME(ab)@2 END");
+        Tapes.reads("/1 /-1.5 /16#f /1e5 /16#100000000 /1e999",
+                "LITERAL(1)@0 LITERAL(-1.5)@3 LITERAL(16#f)@9 LITERAL(1e5)@15 LITERAL(16#100000000)@20 LITERAL(1e999)@34 END");
+        Tapes.reads("/(a)/<41>/[/]/{/}/<</>>",
+                "LITERAL()@0 STRING(a)@1 LITERAL()@4 STRING(A)@5 LITERAL()@9 [@10 LITERAL()@11 ]@12 LITERAL()@13 {@14 "
+                + "LITERAL()@15 }@16 LITERAL()@17 <<@18 LITERAL()@20 >>@21 END");
+        Tapes.reads("/a/b", "LITERAL(a)@0 LITERAL(b)@2 END");
+        Tapes.reads("/\u0088\u0001", "LITERAL()@0 NUMBER(1)@1 END");
+        Checks.same("its BASE is none", 16, baseBehind("16#f /8#7 /7 "));
     }
 
-    private static void longWords() {
-        String hundred = "a".repeat(100);
-        Tapes.reads(hundred, "NAME(" + hundred + ")@0 END");
-        Tapes.reads(" " + hundred + "a b", "WRONG1@1 NAME(b)@103 END");
-        Tapes.reads("/" + hundred + " /" + hundred + "a", "LITERAL(" + hundred + ")@0 WRONG1@102 END");
-        Tapes.reads("//" + hundred + " //" + hundred + "a", "INSTANT(" + hundred + ")@0 WRONG1@103 END");
-        Tapes.reads("16#" + "f".repeat(97), "WRONG5@0 END");
-        Tapes.reads("16#" + "f".repeat(98), "WRONG1@0 END");
-        Tapes.reads("0".repeat(96) + "12e9" + " " + "0".repeat(96) + "1e999", "REAL(1.2E10)@0 WRONG1@101 END");
-        Tapes.reads("0".repeat(98) + "12 " + "0".repeat(99) + "12", "NUMBER(12)@0 WRONG1@101 END");
-        Tapes.reads("a".repeat(450) + " b", "WRONG1@0 NAME(b)@451 END");
-        Tapes.readsOpen("a".repeat(101), "MORE");
-        Tapes.readsOpen("/" + "a".repeat(101), "MORE");
-        Tapes.readsOpen("a".repeat(101) + "(", "WRONG1@0 MORE");
+    private static void instants() {
+        Checks.about("5 INSTANT: // and a WORD, or none.");
+        Tapes.reads("//ab", "INSTANT(ab)@0 END");
+        Tapes.reads("//", "INSTANT()@0 END");
+        Tapes.reads("// /", "INSTANT()@0 LITERAL()@3 END");
+        Tapes.reads("/ /", "LITERAL()@0 LITERAL()@2 END");
+        Tapes.reads("///", "INSTANT()@0 LITERAL()@2 END");
+        Tapes.reads("////", "INSTANT()@0 INSTANT()@2 END");
+        Tapes.reads("///a /////b", "INSTANT()@0 LITERAL(a)@2 INSTANT()@5 INSTANT()@7 LITERAL(b)@9 END");
+        Tapes.reads("//16#f //1.5", "INSTANT(16#f)@0 INSTANT(1.5)@7 END");
+        Tapes.reads("//(b)//[]//\u0088\u0002", "INSTANT()@0 STRING(b)@2 INSTANT()@5 [@7 ]@8 INSTANT()@9 NUMBER(2)@11 END");
+        Tapes.reads("/%\n/", "LITERAL()@0 LITERAL()@3 END");
     }
 }

@@ -1,11 +1,21 @@
 /** Feeds bytes to a TokenReader and writes down what it reads, in a form that tables can hold. */
 final class Tapes {
+    static final String WHITES = "\0\t\n\f\r ";
+    static final String OWNS = "()<>[]{}/%";
     private static final String[] KINDS = {
         "MORE", "NUMBER", "REAL", "NAME", "LITERAL", "INSTANT", "STRING", "[", "]", "{", "}", "<<", ">>",
         "TRUTH", "LITERALNO", "NAMENO", "ROW", "17", "18", "19", "END"
     };
 
     private Tapes() {
+    }
+
+    static boolean isWhite(int b) {
+        return WHITES.indexOf(b) >= 0;
+    }
+
+    static boolean isPlain(int b) {
+        return b > 159 || b < 128 && !isWhite(b) && OWNS.indexOf(b) < 0;
     }
 
     /** Each character is one byte. */
@@ -29,6 +39,15 @@ final class Tapes {
         return text.toString();
     }
 
+    /** The lowest bytes of a number, as many as the width tells. */
+    static String ordered(long number, int width, boolean lowestFirst) {
+        StringBuilder text = new StringBuilder();
+        for (int k = 0; k < width; k++) {
+            text.append((char) (number >> 8 * k & 255));
+        }
+        return lowestFirst ? text.toString() : text.reverse().toString();
+    }
+
     /** All that is read of the bytes and the END behind them, told at once and byte by byte. */
     static void reads(String bytes, String want) {
         Checks.same("at once, " + shown(bytes), want, atOnce(bytes));
@@ -38,6 +57,23 @@ final class Tapes {
     /** All that is read while no END was told. */
     static void readsOpen(String bytes, String want) {
         Checks.same("without END, " + shown(bytes), want, rest(fed(bytes)));
+    }
+
+    /** The bytes must end a TOKEN: none of those before the last tells it, and the last one does. */
+    static void endsWithLast(String bytes, String want) {
+        TokenReader reader = new TokenReader();
+        for (int i = 0; i < bytes.length(); i++) {
+            Checks.same("next before byte " + i + " of " + shown(bytes), 0, reader.next());
+            reader.add((byte) bytes.charAt(i));
+        }
+        Checks.same("with the last byte, " + shown(bytes), want, rest(reader));
+    }
+
+    /** What the first call of NEXT tells, with the END behind the bytes. */
+    static String first(String bytes) {
+        TokenReader reader = fed(bytes);
+        reader.end();
+        return one(reader, reader.next());
     }
 
     static String atOnce(String bytes) {
@@ -69,9 +105,12 @@ final class Tapes {
         return told.append(KINDS[answer]).toString();
     }
 
-    static String one(TokenReader reader, int answer) {
+    private static String one(TokenReader reader, int answer) {
         if (answer < 0) {
             return "WRONG" + (-1 - answer) + "@" + reader.place();
+        }
+        if (answer == 0 || answer == 20) {
+            return KINDS[answer];
         }
         return KINDS[answer] + value(reader, answer) + "@" + reader.place();
     }
@@ -107,7 +146,8 @@ final class Tapes {
         return row.toString();
     }
 
-    private static String shown(String bytes) {
+    /** Bytes as tables write them: those that can't be seen as $ and two digits of base 16. */
+    static String shown(String bytes) {
         StringBuilder text = new StringBuilder();
         for (int i = 0; i < bytes.length(); i++) {
             char c = bytes.charAt(i);
@@ -118,5 +158,9 @@ final class Tapes {
             }
         }
         return text.toString();
+    }
+
+    static String string(String bytes) {
+        return "STRING(" + shown(bytes) + ")";
     }
 }
